@@ -205,8 +205,9 @@ public final class ClosureFlows {
             return atoms[lambda * MOST_ATOMS + i];
         }
 
-        boolean isAncestor(int older, int lambda) {
-            return older != lambda && has(lineages[lambda], older);
+        /** The set of a lambda and its ancestors. */
+        int lineageOf(int lambda) {
+            return lineages[lambda];
         }
 
         int makeLambda(int parent, int params) {
@@ -496,8 +497,16 @@ public final class ClosureFlows {
                 loadOperand(i, program.atomOf(lambda, i), contour);
             }
             applyDirectly(0, 1, length - 1);
-            if (length == MOST_ATOMS) {
-                applyTernary();
+            int operators = length == MOST_ATOMS ? operandConstants[0] : 0;
+            int numbers = operandConstants[1] & ALL_NUMBERS;
+            if (has(operators, constantBit(ADD)) && loadSums(numbers, operandConstants[2] & ALL_NUMBERS)) {
+                applyDirectly(3, SUM_OPERAND, 1);
+            }
+            if (has(operators, constantBit(IFZERO)) && has(numbers, 0)) {
+                applyDirectly(2, 1, 0);
+            }
+            if (has(operators, constantBit(IFZERO)) && numbers > 1) {
+                applyDirectly(3, 1, 0);
             }
         }
 
@@ -515,21 +524,17 @@ public final class ClosureFlows {
             }
         }
 
-        private void applyTernary() {
-            int numbers = operandConstants[1] & ALL_NUMBERS;
-            int sums = sums(numbers, operandConstants[2] & ALL_NUMBERS);
-            boolean adds = has(operandConstants[0], constantBit(ADD));
-            boolean chooses = has(operandConstants[0], constantBit(IFZERO));
-            if (adds && sums != 0) {
-                operandConstants[SUM_OPERAND] = sums;
-                applyDirectly(3, SUM_OPERAND, 1);
+        /** Answers whether there is a sum at all, since ADD applies nothing without one. */
+        private boolean loadSums(int first, int second) {
+            int sums = 0;
+            for (int number = 0; number < NUMBERS; number++) {
+                if (has(first, number)) {
+                    int shifted = second << number;
+                    sums |= (shifted | shifted >>> NUMBERS) & ALL_NUMBERS;
+                }
             }
-            if (chooses && has(numbers, 0)) {
-                applyDirectly(2, 1, 0);
-            }
-            if (chooses && numbers > 1) {
-                applyDirectly(3, 1, 0);
-            }
+            operandConstants[SUM_OPERAND] = sums;
+            return sums != 0;
         }
 
         /** Leaves ADD and IFZERO out: what they apply in turn gets too few arguments to be one of them. */
@@ -553,8 +558,9 @@ public final class ClosureFlows {
                 int operand = firstArgument + i;
                 widen(slot(lambda, i, newContour), operandConstants[operand], operandPairs[operand]);
             }
+            int lineage = program.lineageOf(lambda);
             for (int older = 0; older < lambda; older++) {
-                if (program.isAncestor(older, lambda)) {
+                if (has(lineage, older)) {
                     carryOver(older, environment);
                 }
             }
@@ -603,17 +609,6 @@ public final class ClosureFlows {
 
         private static int constantBit(int atom) {
             return isNumber(atom) ? atom : NUMBERS + atom - HALT;
-        }
-
-        private static int sums(int first, int second) {
-            int sums = 0;
-            for (int number = 0; number < NUMBERS; number++) {
-                if (has(first, number)) {
-                    int shifted = second << number;
-                    sums |= (shifted | shifted >>> NUMBERS) & ALL_NUMBERS;
-                }
-            }
-            return sums;
         }
     }
 }

@@ -32,6 +32,7 @@ public final class AnalysisTest {
         test.contoursKeepCallersApart();
         test.ancestorsAreCarriedOver();
         test.unreachedLambdas();
+        test.olderLambdasAreVisited();
         test.due.end();
     }
 
@@ -389,6 +390,20 @@ public final class AnalysisTest {
             due.is("constants(2, 0)", flows.constants(2, 0), 0);
             due.is("closures(2, 0)", flows.closures(2, 0), 0);
             due.is("results()", flows.results(), 0);
+        }
+    }
+
+    /** That lambda 2 calls lambda 1 adds a state and nothing else, and lambda 1 was passed over by then. */
+    private void olderLambdasAreVisited() {
+        ClosureFlows flows = Programs.withLambdas(0, 0, 0, 1, 0, 2);
+        Programs.call(flows, 0, 203, 202, 201);
+        Programs.call(flows, 1, HALT, 5);
+        Programs.call(flows, 2, 120);
+        Programs.call(flows, 3, 130, 131);
+        for (int k = 0; k <= 1; k++) {
+            due.is("analyse(" + k + ")", flows.analyse(k), 4);
+            due.is("flow(2)", flows.flow(2), 1 << 1);
+            due.is("results()", flows.results(), 1 << 5);
         }
     }
 }

@@ -2,7 +2,7 @@ import java.util.List;
 
 /** All promises: many long runs of calls, each answer of the class compared with the model's. */
 public final class ModelTest {
-    private static final int RUNS = 4000;
+    private static final int RUNS = 10000;
     private static final int MOST_CALLS = 512;
     private static final int[] ENDS = {Integer.MIN_VALUE, Integer.MAX_VALUE, -1, 8, 9, 10, 99, 180, 199, 208, 303, 1000};
 
@@ -77,7 +77,7 @@ public final class ModelTest {
 
     /** Most lambdas of a program have equally many parameters, since a run ends where the arguments do not fit. */
     private void writeProgram() {
-        int usual = 1 + below(3);
+        int usual = below(8) == 0 ? 0 : 1 + below(3);
         int more = 1 + below(7);
         for (int i = 0; i < more; i++) {
             int there = model.lambdas();
