@@ -198,7 +198,8 @@ final class Model {
         } else if (atom == 300 && count == 1) {
             result = arguments.get(0);
             state = 2;
-        } else if (atom == 301 && count == 3 && isNumber(arguments.get(0).atom()) && isNumber(arguments.get(1).atom())) {
+        } else if (atom == 301 && count == 3
+            && isNumber(arguments.get(0).atom()) && isNumber(arguments.get(1).atom())) {
             int sum = (arguments.get(0).atom() + arguments.get(1).atom()) % 10;
             apply(arguments.get(2), List.of(new Value(sum, null)));
         } else if (atom == 302 && count == 3 && isNumber(arguments.get(0).atom())) {

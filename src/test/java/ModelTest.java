@@ -4,7 +4,7 @@ import java.util.List;
 public final class ModelTest {
     private static final int RUNS = 10000;
     private static final int MOST_CALLS = 512;
-    private static final int[] ENDS = {Integer.MIN_VALUE, Integer.MAX_VALUE, -1, 8, 9, 10, 99, 180, 199, 208, 303, 1000};
+    private static final int[] ENDS = {Integer.MIN_VALUE, Integer.MAX_VALUE, -1, 8, 9, 10, 99, 180, 199, 208, 303, 999};
 
     private final Due due = new Due("ModelTest");
     private final int[] reached = new int[5];

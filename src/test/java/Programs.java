@@ -4,15 +4,10 @@ final class Programs {
     static final int ADD = 301;
     static final int IFZERO = 302;
 
+    /** Far from every bound; the places that the largest of them would have in a row wrap around to small ones. */
+    static final int[] FAR = {Integer.MIN_VALUE, -1000, -256, 256, 1000, 1 << 29, 1 << 30, Integer.MAX_VALUE};
+
     private Programs() {
-    }
-
-    static int parameter(int lambda, int i) {
-        return 100 + 10 * lambda + i;
-    }
-
-    static int closure(int lambda) {
-        return 200 + lambda;
     }
 
     static void call(ClosureFlows flows, int lambda, int... atoms) {
@@ -34,26 +29,47 @@ final class Programs {
         return flows;
     }
 
-    /** Lambda 0 calls lambda 1 with 5, and lambda 1 halts with its parameter. */
-    static ClosureFlows haltWithFive() {
-        ClosureFlows flows = withLambdas(0, 1);
-        call(flows, 0, closure(1), 5);
-        call(flows, 1, HALT, parameter(1, 0));
-        return flows;
-    }
-
-    /** Lambda 1 applies its parameter to itself for ever. */
-    static ClosureFlows endless() {
-        ClosureFlows flows = withLambdas(0, 1);
-        call(flows, 0, closure(1), closure(1));
-        call(flows, 1, parameter(1, 0), parameter(1, 0));
-        return flows;
-    }
-
-    /** Lambda 0 makes one call of a primitive with the given arguments. */
+    /** Lambda 0 makes one call, in which no lambda stands. */
     static ClosureFlows oneCall(int... atoms) {
         ClosureFlows flows = new ClosureFlows();
         call(flows, 0, atoms);
+        return flows;
+    }
+
+    /** Lambda 0 calls lambda 1 with 5, and lambda 1 halts with its parameter. */
+    static ClosureFlows haltWithFive() {
+        ClosureFlows flows = withLambdas(0, 1);
+        call(flows, 0, 201, 5);
+        call(flows, 1, HALT, 110);
+        return flows;
+    }
+
+    /** Lambda 0 calls lambda 1 with 5, and lambda 1 applies that number. */
+    static ClosureFlows stuckWithFive() {
+        ClosureFlows flows = withLambdas(0, 1);
+        call(flows, 0, 201, 5);
+        call(flows, 1, 110, 110);
+        return flows;
+    }
+
+    /** Lambda 1 applies its parameter, which is lambda 1, to itself for ever. */
+    static ClosureFlows endless() {
+        ClosureFlows flows = withLambdas(0, 1);
+        call(flows, 0, 201, 201);
+        call(flows, 1, 110, 110);
+        return flows;
+    }
+
+    /** One object for each thing that state() can tell, 0 to 4; lambda 1 has one parameter and its call two atoms. */
+    static ClosureFlows inState(int state) {
+        ClosureFlows flows = state == 4 ? endless() : state == 3 ? stuckWithFive() : haltWithFive();
+        if (state > 0) {
+            flows.start();
+            flows.step(state == 1 ? 1 : 99);
+        }
+        if (flows.state() != state) {
+            throw new IllegalStateException("state " + state + " was not reached");
+        }
         return flows;
     }
 }
