@@ -675,7 +675,7 @@ public final class AnalysisTest {
         due.promise("15", "-1 when .. no such lambda");
         ClosureFlows flows = Programs.endless();
         due.is("analyse(1)", flows.analyse(1), 3);
-        for (int lambda : andFar(-1, 2, 7, 8)) {
+        for (int lambda : andFar(-1, 2, 7, 8, 9)) {
             due.is("flow(" + lambda + ")", flows.flow(lambda), -1);
         }
     }
@@ -730,7 +730,7 @@ public final class AnalysisTest {
         due.promise("16", "-1 when .. no such lambda");
         ClosureFlows flows = Programs.endless();
         due.is("analyse(1)", flows.analyse(1), 3);
-        for (int lambda : andFar(-1, 2, 7, 8)) {
+        for (int lambda : andFar(-1, 2, 7, 8, 9)) {
             due.is("contours(" + lambda + ")", flows.contours(lambda), -1);
         }
     }
@@ -797,12 +797,12 @@ public final class AnalysisTest {
         due.is("analyse(0)", flows.analyse(0), 5);
         int[] params = {0, 3, 3, 3, 2};
         for (int lambda = 0; lambda < params.length; lambda++) {
-            for (int i : andFar(-1, 0, 1, 2, 3, 4)) {
+            for (int i : andFar(-1, 0, 1, 2, 3, 4, 10)) {
                 boolean there = i >= 0 && i < params[lambda];
                 due.is("constants(" + lambda + ", " + i + ") is there", flows.constants(lambda, i) != -1, there);
             }
         }
-        for (int lambda : andFar(-1, 6, 7, 8)) {
+        for (int lambda : andFar(-1, 6, 7, 8, 9, 10)) {
             due.is("constants(" + lambda + ", 0)", flows.constants(lambda, 0), -1);
         }
         due.is("constants(1, 2)", flows.constants(1, 2), 1 << 8);
@@ -844,12 +844,12 @@ public final class AnalysisTest {
         due.is("analyse(0)", flows.analyse(0), 5);
         int[] params = {0, 3, 3, 3, 2};
         for (int lambda = 0; lambda < params.length; lambda++) {
-            for (int i : andFar(-1, 0, 1, 2, 3, 4)) {
+            for (int i : andFar(-1, 0, 1, 2, 3, 4, 10)) {
                 boolean there = i >= 0 && i < params[lambda];
                 due.is("closures(" + lambda + ", " + i + ") is there", flows.closures(lambda, i) != -1, there);
             }
         }
-        for (int lambda : andFar(-1, 6, 7, 8)) {
+        for (int lambda : andFar(-1, 6, 7, 8, 9, 10)) {
             due.is("closures(" + lambda + ", 0)", flows.closures(lambda, 0), -1);
         }
         due.is("closures(4, 0)", flows.closures(4, 0), 1 << 1);

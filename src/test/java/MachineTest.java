@@ -702,6 +702,8 @@ public final class MachineTest {
         due.is("value(2, 2)", flows.value(2, 2), -1);
         due.is("value(2, -1)", flows.value(2, -1), -1);
         due.is("value(0, 0)", flows.value(0, 0), -1);
+        due.is("value(0, 10), which is not value(1, 0)", flows.value(0, 10), -1);
+        due.is("value(1, 10), which is not value(2, 0)", flows.value(1, 10), -1);
         for (int far : FAR) {
             due.is("value(1, " + far + ")", flows.value(1, far), -1);
             due.is("value(2, " + far + ")", flows.value(2, far), -1);
@@ -711,7 +713,7 @@ public final class MachineTest {
     private void valueOfNoLambda() {
         due.promise("11", "-1 when .. that environment has no such parameter [no such lambda]");
         ClosureFlows flows = withValues();
-        for (int lambda : new int[] {-1, 4, 7, 8}) {
+        for (int lambda : new int[] {-1, 4, 7, 8, 9, 10}) {
             due.is("value(" + lambda + ", 0)", flows.value(lambda, 0), -1);
         }
         for (int far : FAR) {
@@ -846,7 +848,7 @@ public final class MachineTest {
         due.promise("13", "-1 when .. there is no such lambda");
         for (int state = 0; state <= 4; state++) {
             ClosureFlows flows = Programs.inState(state);
-            for (int lambda : new int[] {-1, 2, 7, 8}) {
+            for (int lambda : new int[] {-1, 2, 7, 8, 9}) {
                 due.is("called(" + lambda + ")", flows.called(lambda), -1);
             }
             for (int far : FAR) {

@@ -121,6 +121,7 @@ public final class ProgramTest {
         due.is("lambda(3, 0)", flows.lambda(3, 0), -1);
         due.is("lambda(7, 0)", flows.lambda(7, 0), -1);
         due.is("lambda(8, 0)", flows.lambda(8, 0), -1);
+        due.is("lambda(9, 0)", flows.lambda(9, 0), -1);
         for (int far : FAR) {
             due.is("lambda(" + far + ", 0)", flows.lambda(far, 0), -1);
         }
@@ -339,6 +340,7 @@ public final class ProgramTest {
         due.is("put(5, 0)", flows.put(5, 0), false);
         due.is("put(7, 0)", flows.put(7, 0), false);
         due.is("put(8, 0)", flows.put(8, 0), false);
+        due.is("put(9, 0)", flows.put(9, 0), false);
         for (int far : FAR) {
             due.is("put(" + far + ", 0)", flows.put(far, 0), false);
         }
@@ -541,7 +543,7 @@ public final class ProgramTest {
     private void atomOfNoLambda() {
         due.promise("6", "-1 when there is none [no such lambda]");
         ClosureFlows flows = withCalls();
-        for (int lambda : new int[] {-1, 5, 7, 8}) {
+        for (int lambda : new int[] {-1, 5, 7, 8, 9, 10}) {
             due.is("atom(" + lambda + ", 0)", flows.atom(lambda, 0), -1);
         }
         for (int far : FAR) {

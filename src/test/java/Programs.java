@@ -4,8 +4,9 @@ final class Programs {
     static final int ADD = 301;
     static final int IFZERO = 302;
 
-    /** Far from every bound; the places that the largest of them would have in a row wrap around to small ones. */
-    static final int[] FAR = {Integer.MIN_VALUE, -1000, -256, 256, 1000, 1 << 29, 1 << 30, Integer.MAX_VALUE};
+    /** Far from every bound; cut to fewer bits, or multiplied to a place in a row, some of them are as small as 1. */
+    static final int[] FAR = {Integer.MIN_VALUE, Integer.MIN_VALUE + 1, -1000, -255, 257, 1000, (1 << 29) + 1,
+        (1 << 30) + 1, Integer.MAX_VALUE};
 
     private Programs() {
     }

@@ -173,7 +173,7 @@ public final class RefusalTest {
     }
 
     private static void addLambda(List<Refused> all) {
-        for (int parent : andFar(-1, 4, 7, 8)) {
+        for (int parent : andFar(-1, 4, 7, 8, 9)) {
             all.add(lambda("-1 when there is no lambda parent", parent, 0));
         }
         for (int params : andFar(-1, 4)) {
@@ -187,7 +187,7 @@ public final class RefusalTest {
     }
 
     private static void addPut(List<Refused> all) {
-        for (int lambda : andFar(-1, 4, 7, 8)) {
+        for (int lambda : andFar(-1, 4, 7, 8, 9)) {
             all.add(put("false when there is no such lambda", lambda, 9));
         }
         all.add(put("false when .. its call has four atoms", 3, 9));
@@ -213,7 +213,7 @@ public final class RefusalTest {
     }
 
     private static void addAtom(List<Refused> all) {
-        for (int lambda : andFar(-1, 4, 7, 8)) {
+        for (int lambda : andFar(-1, 4, 7, 8, 9)) {
             all.add(atom(lambda, 0));
         }
         for (int i : andFar(-1, 2, 3, 4)) {
@@ -240,10 +240,10 @@ public final class RefusalTest {
 
     private static void addValue(List<Refused> all) {
         String words = "-1 when .. that environment has no such parameter";
-        for (int lambda : andFar(-1, 0, 3, 4, 7, 8)) {
+        for (int lambda : andFar(-1, 0, 3, 4, 7, 8, 9)) {
             all.add(value(words, lambda, 0));
         }
-        for (int i : andFar(-1, 1, 3)) {
+        for (int i : andFar(-1, 1, 3, 10)) {
             all.add(value(words, 1, i));
         }
         all.add(value(words, 2, -1));
@@ -255,7 +255,7 @@ public final class RefusalTest {
     }
 
     private static void addCalled(List<Refused> all) {
-        for (int lambda : andFar(-1, 4, 7, 8)) {
+        for (int lambda : andFar(-1, 4, 7, 8, 9)) {
             all.add(called("-1 when .. there is no such lambda", lambda));
         }
     }
@@ -275,7 +275,7 @@ public final class RefusalTest {
     }
 
     private static void addFlowAndContours(List<Refused> all) {
-        for (int lambda : andFar(-1, 4, 7, 8)) {
+        for (int lambda : andFar(-1, 4, 7, 8, 9)) {
             all.add(flow("-1 when .. no such lambda", lambda));
             all.add(contours("-1 when .. no such lambda", lambda));
         }
@@ -290,11 +290,11 @@ public final class RefusalTest {
     }
 
     private static void addConstantsAndClosures(List<Refused> all) {
-        for (int lambda : andFar(-1, 0, 3, 4, 7, 8)) {
+        for (int lambda : andFar(-1, 0, 3, 4, 7, 8, 9)) {
             all.add(constants("-1 when .. no such parameter", lambda, 0));
             all.add(closures("-1 when .. no such parameter", lambda, 0));
         }
-        for (int i : andFar(-1, 1, 3)) {
+        for (int i : andFar(-1, 1, 3, 10)) {
             all.add(constants("-1 when .. no such parameter", 1, i));
             all.add(closures("-1 when .. no such parameter", 1, i));
         }
